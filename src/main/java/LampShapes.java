@@ -117,7 +117,7 @@ public final class LampShapes {
         if (!now.hasShape(shape) || turn < 0 || turn >= TURNS) {
             return finding(BEYOND);
         }
-        return now.pointsThrown(shape, turn);
+        return Kinds.pointsBy(now.kinds[shape], now.points[shape], turn);
     }
 
     public long shadow(int shape, int placing) {
@@ -267,12 +267,13 @@ public final class LampShapes {
             return finding(BEYOND);
         }
         now.emptyHands();
+        long wanted = now.pictures[scene];
         for (int hold = 0; hold < HOLDS; hold++) {
-            if (!search.addOne(now, hold, now.pictures[scene])) {
+            if (!search.addOne(now, hold, now.darkCells(), wanted)) {
                 break;
             }
         }
-        return Lamp.cellsOff(now.darkCells(), now.pictures[scene]);
+        return Lamp.cellsOff(now.darkCells(), wanted);
     }
 
     public int fits(int shape, int scene) {
@@ -617,19 +618,13 @@ public final class LampShapes {
         private static int turnedBy(int points, int turn) {
             int set = points;
             for (int i = 0; i < turn; i++) {
-                set = turnedOnce(set);
-            }
-            return set;
-        }
-
-        private static int turnedOnce(int points) {
-            int set = 0;
-            for (int row = 0; row < 4; row++) {
-                for (int column = 0; column < 4; column++) {
-                    if ((points >> (4 * row + column) & 1) == 1) {
-                        set |= 1 << (4 * column + 3 - row);
+                int next = 0;
+                for (int place = 0; place < 16; place++) {
+                    if ((set >> place & 1) == 1) {
+                        next |= 1 << (4 * (place % 4) + 3 - place / 4);
                     }
                 }
+                set = next;
             }
             return set;
         }
@@ -769,13 +764,10 @@ public final class LampShapes {
             return (1 << shapes) - 1 & ~tornShapes;
         }
 
-        int pointsThrown(int shape, int turn) {
-            return Kinds.pointsBy(kinds[shape], points[shape], turn);
-        }
-
         /** The cells that a shape makes dark at row 0, column 0, by a way: 4 times NEAR and TURN. */
         long cornerBy(int shape, int way) {
-            return Lamp.cellsAtCorner(pointsThrown(shape, way % TURNS), way / TURNS);
+            int thrownPoints = Kinds.pointsBy(kinds[shape], points[shape], way % TURNS);
+            return Lamp.cellsAtCorner(thrownPoints, way / TURNS);
         }
 
         long cellsBy(int shape, int placing) {
@@ -928,8 +920,7 @@ public final class LampShapes {
         }
 
         /** Takes into a free hold what brings the hands nearest to what is wanted: false if nothing brings them nearer. */
-        boolean addOne(Stage stage, int hold, long wanted) {
-            long already = stage.darkCells();
+        boolean addOne(Stage stage, int hold, long already, long wanted) {
             int leastOfAll = Lamp.cellsOff(already, wanted);
             int found = -1;
             int foundPlacing = -1;
@@ -1166,9 +1157,8 @@ public final class LampShapes {
             if (isWord("torn")) {
                 return tornItem();
             }
-            if (isWord("drop")) {
+            if (passes("drop")) {
                 stage.emptyHands();
-                advance();
                 return true;
             }
             return false;
@@ -1248,15 +1238,15 @@ public final class LampShapes {
                 return false;
             }
             advance();
-            int near = wordThenNumber("near", 1, 2);
+            int near = passes("near") ? numberWithin(1, 2) : -1;
             if (near < 0) {
                 return false;
             }
-            int turn = wordThenNumber("turn", 0, TURNS - 1);
+            int turn = passes("turn") ? numberWithin(0, TURNS - 1) : -1;
             if (turn < 0) {
                 return false;
             }
-            int row = wordThenNumber("at", 0, ROWS - 1);
+            int row = passes("at") ? numberWithin(0, ROWS - 1) : -1;
             if (row < 0) {
                 return false;
             }
@@ -1279,15 +1269,15 @@ public final class LampShapes {
             return true;
         }
 
-        /** -1 if the word, or behind it the number, can't stand there. */
-        private int wordThenNumber(String word, int least, int most) {
+        private boolean passes(String word) {
             if (!isWord(word)) {
-                return -1;
+                return false;
             }
             advance();
-            return numberWithin(least, most);
+            return true;
         }
 
+        /** -1 if what is looked at is no such number. */
         private int numberWithin(int least, int most) {
             int number = value();
             if (number < least || number > most) {
