@@ -109,7 +109,6 @@ public final class HandsEdgeTest extends Edges {
     private static void darkCells() {
         says(0, "DARK: CELLS that are dark by some SHAPE held (those TORN throw nothing).");
         LampShapes x = shapes(0, 65535, 1, 0x8000);
-        due("nothing is held", x.dark(), 0);
         x.hold(0, 8000);
         due("all is dark", x.dark(), -1);
         due("count(4)", x.count(4), 64);
@@ -123,6 +122,16 @@ public final class HandsEdgeTest extends Edges {
         x.drop(1);
         x.hold(2, 4077);
         due("one off the sheet", x.dark(), 0);
+        says(14, "DARK.");
+        due("nothing is held", shapes(0, 65535).dark(), 0);
+        LampShapes four = shapes(0, 1, 1, 1, 1);
+        for (int s = 0; s < 4; s++) {
+            four.hold(s, new int[] {4000, 4007, 4070, 4077}[s]);
+        }
+        due("by each of the four HOLDS", four.dark(), 1L | 1L << 7 | 1L << 56 | CELL_63);
+        four.drop(0);
+        four.drop(3);
+        due("by two of them", four.dark(), 1L << 7 | 1L << 56);
     }
 
     /** Four alike, so many of them held at one place. */

@@ -150,6 +150,9 @@ public final class ScenesEdgeTest extends Edges {
         due("what throws nothing, none wanted", none.nearest(0, 1, 0), 4000);
         due("its OFF", none.nearest(0, 1, 1), 0);
         due("the first by which it is off the sheet", none.nearest(1, 1, 0), 4005);
+        LampShapes never = with(scenes(0), 0, 1);
+        due("what is never off the sheet, none wanted", never.nearest(0, 0, 0), 4000);
+        due("its OFF", never.nearest(0, 0, 1), 1);
         for (int near = 1; near <= 2; near++) {
             for (int turn = 0; turn < 4; turn++) {
                 none.allow(8 << near | 1 << turn);
@@ -229,6 +232,14 @@ public final class ScenesEdgeTest extends Edges {
         due("without SHAPES", scenes(-1).play(0), 64);
         due("all TORN", torn(with(scenes(-1), 0, 65535), 0).play(0), 64);
         due("all by one", with(scenes(-1), 0, 65535, 65535).play(0), 0);
+        LampShapes nine = with(scenes(3), 0, 0, 0, 0, 0, 0, 0, 0, 0, 3);
+        due("all by the ninth", nine.play(0), 0);
+        due("the ninth alone", nine.held(0, 0) + 10 * nine.count(3), 18);
+        LampShapes gone = with(scenes(-1), 0, 0);
+        gone.image();
+        gone.shape(0, 65535);
+        gone.undo();
+        due("a SHAPE that is there no more", gone.play(0), 64);
         says(25, "BEYOND.");
         noSuchScene("play", (y, s) -> y.play(s));
     }
@@ -298,6 +309,13 @@ public final class ScenesEdgeTest extends Edges {
     private static void orderOfAll() {
         says(29, "The ORDER of all SCENES (6 at most) with the least COST");
         orders("none", empty(), 0);
+        LampShapes gone = empty();
+        gone.image();
+        gone.scene(0);
+        gone.scene(-1);
+        due("of two", gone.order(-1), 16);
+        gone.undo();
+        orders("none any more", gone, 0);
         orders("one", scenes(-1), 0, 0);
         orders("six", scenes(0xF, 0xFFFFF, 0xFFF, 0, 0xFF, 0xFFFF), 5, 1, 5, 2, 4, 0, 3);
         orders("as far as can be", scenes(0, -1), 16, 0, 1);

@@ -118,7 +118,7 @@ public final class SheetsEdgeTest extends Edges {
     }
 
     private static void copyMany() {
-        says(37, "n numbers of a sheet from one on come to another one from one on: n.");
+        says(37, "n numbers of a sheet from one on come to another one from one on [..]: n.");
         for (int bits : WIDTHS) {
             LampShapes x = two(bits, bits);
             due("the last three", x.copy(0, 2, 1, 0, 3), 3);
@@ -204,7 +204,7 @@ public final class SheetsEdgeTest extends Edges {
     }
 
     private static void laysAll() {
-        says(38, "Numbers of a sheet are PICTURES of SCENES 0, 1, .. (as 64 bits)");
+        says(38, "Numbers of a sheet are PICTURES of SCENES 0, 1, .. (as 64 bits");
         for (int bits : WIDTHS) {
             LampShapes x = withScenes(paper(bits, -1, 0, CELL_63 | 1), 9, 9, 9);
             due("three of " + bits + " bits", x.lays(0), 3);

@@ -89,6 +89,7 @@ public final class TextEdgeTest extends Edges {
         faulty("dropz", 0);
         faulty("shape #;torn 00 0", 16);
         faulty("shape #;torn 10", 13);
+        faulty("shape #;torn 09", 13);
         faulty("shape #;hold 0nearturn", 14);
         LampShapes x = empty();
         tell(x, "shape ##;shape # #");
@@ -132,6 +133,12 @@ public final class TextEdgeTest extends Edges {
         for (String word : new String[] {"a", "near", "turn", "at", "kind", "drops", "hol", "scenes", "tear", "z".repeat(40)}) {
             faulty(word, 0);
             faulty("drop; " + word + " 0", 6);
+        }
+        for (String word : new String[] {"shape #", "turned #", "mirrored #", "hollow #", "double #", "filled #", "scene #", "drop"}) {
+            stands(word, 1);
+            for (int i = 0; i < word.length() && word.charAt(i) != ' '; i++) {
+                faulty(word.substring(0, i) + "x" + word.substring(i + 1), 0);
+            }
         }
         faulty("shape #;hold 0 far 1", 15);
         faulty("shape #;hold 0 turn 1", 15);
@@ -292,6 +299,19 @@ public final class TextEdgeTest extends Edges {
             faulty("shape #;hold 0 near 1 turn 0 at " + number + " 0", 32);
             faulty("shape #;hold 0 near 1 turn 0 at 0 " + number, 34);
         }
+        for (String other : new String[] {";drop", "#", "drop", "!"}) {
+            for (int end : new int[] {13, 20, 27, 32, 34}) {
+                faulty(HELD.substring(0, end) + other, end);
+            }
+        }
+        faulty("shape #;hold 0 1 turn 0 at 0 0", 15);
+        faulty("shape #;hold 0 turn 0 at 0 0", 15);
+        faulty("shape #;hold 0 near turn 0 at 0 0", 20);
+        faulty("shape #;hold 0 near 1 0 at 0 0", 22);
+        faulty("shape #;hold 0 near 1 at 0 0", 22);
+        faulty("shape #;hold 0 near 1 turn at 0 0", 27);
+        faulty("shape #;hold 0 near 1 turn 0 0 0", 29);
+        faulty("shape #;hold 0 near 1 turn 0 0", 29);
         says(0, "it is held in the first HOLD that is free");
         LampShapes z = full();
         z.wipe();
