@@ -29,11 +29,9 @@ public final class LampShapes {
 
     private final Stage now = new Stage();
     private final Stage kept = new Stage();
-    private final Stage tried = new Stage();
     private final Search search = new Search();
     private final Route route = new Route();
-    private final Tape tape = new Tape();
-    private final Script script = new Script(tape, tried);
+    private final Script script = new Script();
     private final Paper[] papers = new Paper[PAPERS];
     private final int[] told = new int[FINDINGS];
     private boolean isKept = false;
@@ -356,28 +354,28 @@ public final class LampShapes {
         if (n < 1 || n > 4) {
             return finding(BEYOND);
         }
-        if (!tape.hasRoomFor(n)) {
+        if (!script.tape.hasRoomFor(n)) {
             return finding(FULL);
         }
         for (int left = n - 1; left >= 0; left--) {
-            tape.add(bytes >> (8 * left));
+            script.tape.add(bytes >> (8 * left));
         }
-        return tape.size;
+        return script.tape.size;
     }
 
     public int wipe() {
-        int before = tape.size;
-        tape.size = 0;
+        int before = script.tape.size;
+        script.tape.size = 0;
         return before;
     }
 
     public int text() {
-        tried.takeAll(now);
+        script.stage.takeAll(now);
         int items = script.perform();
         if (items > 0) {
-            now.takeAll(tried);
+            now.takeAll(script.stage);
         }
-        tape.size = 0;
+        script.tape.size = 0;
         return items;
     }
 
@@ -517,7 +515,7 @@ public final class LampShapes {
             case 4:
                 return Long.bitCount(now.darkCells());
             case 5:
-                return tape.size;
+                return script.tape.size;
             case 6:
                 return now.allowed;
             default:
@@ -1047,8 +1045,9 @@ public final class LampShapes {
     }
 
     /**
-     * Performs the text of a play on a stage. What can't go on leaves the token that can't stand
-     * there as the one looked at, so a fault's place is always where that token begins.
+     * Performs the text on its tape, on a stage of its own: a fault must leave the one outside as it
+     * was. What can't go on leaves the token that can't stand there as the one looked at, so a
+     * fault's place is always where that token begins.
      */
     private static final class Script {
         private static final int END = 0;
@@ -1060,17 +1059,12 @@ public final class LampShapes {
         private static final int OTHER = 6;
         private static final int TOO_GREAT = 10000;
 
-        private final Tape tape;
-        private final Stage stage;
+        private final Tape tape = new Tape();
+        private final Stage stage = new Stage();
         private int token = END;
         private int start = 0;
         private int end = 0;
         private long drawn = 0L;
-
-        Script(Tape tape, Stage stage) {
-            this.tape = tape;
-            this.stage = stage;
-        }
 
         /** How many items there are, or -1 less the place of the fault. */
         int perform() {
