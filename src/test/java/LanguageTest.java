@@ -488,20 +488,30 @@ public final class LanguageTest {
 
     /** A small class with these members must be seen to break a rule; 0: none. */
     private static void breaks(int rule, String members) throws IOException {
-        Set<String> faults = faultsOf("public final class LampShapes { " + members + " }");
+        breaksWhole(rule, "public final class LampShapes { " + members + " }");
+    }
+
+    private static void breaksWhole(int rule, String source) throws IOException {
+        Set<String> faults = faultsOf(source);
         boolean seen = rule == 0 ? faults.isEmpty() : false;
         for (String f : faults) {
             seen |= f.startsWith("rule " + rule + ":");
         }
         if (!seen) {
             wrong++;
-            System.out.println("the check of rule " + rule + " says " + faults + " of " + members);
+            System.out.println("the check of rule " + rule + " says " + faults + " of " + source);
         }
     }
 
     private static void checksSee() throws IOException {
         breaks(0, "private final int[] a = new int[3]; public int f(int i) { return i < 0 || i > 2 ? 0 : a[i]; }");
+        breaksWhole(1, "public final class LampShapes { } class Other { }");
+        breaksWhole(1, "package lamp; public final class LampShapes { }");
+        breaksWhole(4, "import java.util.Random; public final class LampShapes { }");
+        breaksWhole(0, "import java.util.List; import java.util.ArrayList; public final class LampShapes { }");
         breaks(2, "private class In { }");
+        breaks(2, "protected static class In { }");
+        breaks(2, "public int f() { class In { } return 0; }");
         breaks(2, "public static class In { }");
         breaks(2, "private Object o = new Object() { };");
         breaks(2, "private Runnable r = () -> { };");
